@@ -333,8 +333,9 @@ public final class TimberSale {
         requireArgument(isIn(gross, 1, MAX_GROSS) && isIn(defect, 0, MAX_DEFECT));
         requireState(sale.phase == CONTRACT && !sale.loads.isChecked(load));
         history.keep(sale);
-        sale.loads.checks[load] = netVolume(gross, defect);
-        return sale.loads.checks[load] - sale.loads.nets[load];
+        int checked = netVolume(gross, defect);
+        sale.loads.setCheck(load, checked);
+        return checked - sale.loads.nets[load];
     }
 
     public int voidLoad(int load) throws IndexOutOfBoundsException, IllegalStateException {
@@ -566,12 +567,12 @@ public final class TimberSale {
             numbers = new int[SALE_NUMBERS];
             minimumRates = new int[MAX_SPECIES];
             baseIndexes = new int[MAX_SPECIES];
-            clear();
+            // What a new sale has is the least that each number may be.
+            copy(LEAST_NUMBERS, numbers);
         }
 
         void clear() {
             speciesCount = 0;
-            // What a new sale has is the least that each number may be.
             copy(LEAST_NUMBERS, numbers);
             Arrays.fill(minimumRates, 0);
             Arrays.fill(baseIndexes, 0);
@@ -984,6 +985,9 @@ public final class TimberSale {
     /** The loads: net volumes as scaled first and, where there was a check, by the check. */
     private static final class Loads {
         int count;
+        // The sums over the loads with a check; such a load is never removed, so they only grow.
+        int checkedNets;
+        int checkedChecks;
         final int[] species;
         final int[] months;
         final int[] nets;
@@ -998,10 +1002,14 @@ public final class TimberSale {
 
         void clear() {
             count = 0;
+            checkedNets = 0;
+            checkedChecks = 0;
         }
 
         void copyFrom(Loads other) {
             count = other.count;
+            checkedNets = other.checkedNets;
+            checkedChecks = other.checkedChecks;
             copy(other.species, species);
             copy(other.months, months);
             copy(other.nets, nets);
@@ -1030,6 +1038,12 @@ public final class TimberSale {
 
         boolean isChecked(int load) {
             return checks[load] != NONE;
+        }
+
+        void setCheck(int load, int net) {
+            checks[load] = net;
+            checkedNets += nets[load];
+            checkedChecks += net;
         }
 
         int netSum(int kind, int from, int to) {
@@ -1061,28 +1075,16 @@ public final class TimberSale {
         }
 
         long factorDividend(int tolerance) {
-            return needsFactor(tolerance) ? checkedSum(checks) : 1;
+            return needsFactor(tolerance) ? checkedChecks : 1;
         }
 
         long factorDivisor(int tolerance) {
-            return needsFactor(tolerance) ? checkedSum(nets) : 1;
+            return needsFactor(tolerance) ? checkedNets : 1;
         }
 
         boolean needsFactor(int tolerance) {
-            long first = checkedSum(nets);
-            long second = checkedSum(checks);
-            return first != 0 && second != 0
-                    && Math.abs(first - second) * 100 > first * tolerance;
-        }
-
-        long checkedSum(int[] row) {
-            long total = 0;
-            for (int load = 0; load < count; load++) {
-                if (isChecked(load)) {
-                    total += row[load];
-                }
-            }
-            return total;
+            return checkedNets != 0 && checkedChecks != 0
+                    && Math.abs(checkedNets - checkedChecks) * 100 > checkedNets * tolerance;
         }
     }
 
