@@ -301,6 +301,14 @@ public final class BiddingTest {
         more.open();
         t.refused("more than twice", Tester.ELEMENT, () -> more.turningPoint(0));
         t.due("less than half", -51, () -> more.turningPoint(1));
+        // With less than 96, more than 102 or less than 97 the bidders 0, 1 and 2 lead.
+        TimberSale several = hundreds();
+        Tester.bid(several, 3, 0, 100, 200);
+        Tester.bid(several, 0, 0, 0, 296);
+        Tester.bid(several, 1, 0, 200, 98);
+        Tester.bid(several, 2, 0, 0, 297);
+        several.open();
+        t.due("the least of several", 3, () -> several.turningPoint(0));
         // The deposit stands for the volume as it is: with more volume the bid stays valid.
         TimberSale deposit = bidding();
         Tester.bid(deposit, 0, 690, 100, 90);
@@ -371,6 +379,20 @@ public final class BiddingTest {
         alone.seal(4);
         alone.open();
         t.due("alone with 0", 0, () -> alone.leastWinningRate(4, 0));
+        TimberSale nothing = Tester.sale("sale 2 1 0 0 0 0 0;species 7 1;");
+        nothing.advertise();
+        Tester.bid(nothing, 4, 0, 0);
+        nothing.open();
+        t.due("no volume at all", 7, () -> nothing.leastWinningRate(4, 0));
+        TimberSale ones = Tester.sale("sale 2 1 0 0 0 0 0;species 0 1;plot 1;plot 0;");
+        ones.advertise();
+        Tester.bid(ones, 0, 0, 500);
+        Tester.bid(ones, 1, 0, 600);
+        Tester.bid(ones, 2, 0, 0);
+        ones.open();
+        t.due("sealed before: as much", 600, () -> ones.leastWinningRate(0, 0));
+        t.due("sealed behind: 1 more", 601, () -> ones.leastWinningRate(2, 0));
+        t.due("the winner needs 1 more than the second", 501, () -> ones.leastWinningRate(1, 0));
         TimberSale deposit = bidding();
         Tester.bid(deposit, 0, 690, 100, 90);
         Tester.bid(deposit, 1, 691, 100, 50);

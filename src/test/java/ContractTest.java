@@ -264,6 +264,12 @@ public final class ContractTest {
         sale.close();
         t.due("closed", 3, sale::worstCheck);
         t.refused("before the contract", Tester.ELEMENT, () -> opened().worstCheck());
+        TimberSale first = contract();
+        first.scale(0, 1, 0);
+        first.scale(0, 1000, 0);
+        first.check(0, 2, 0);
+        first.check(1, 1999, 0);
+        t.due("a net volume of 1, the first load", 0, first::worstCheck);
     }
 
     private static void scaled() {
@@ -347,6 +353,8 @@ public final class ContractTest {
         factorOf("6 percent", 100, 106, 53, 50);
         factorOf("6 percent less", 100, 94, 47, 50);
         factorOf("just more", 1000, 1051, 1051, 1000);
+        factorOf("even less more", 9500, 9976, 2494, 2375);
+        factorOf("not more", 9500, 9975, 1, 1);
         factorOf("the check is 0", 100, 0, 1, 1);
         factorOf("the first is 0", 0, 100, 1, 1);
         factorOf("both are 0", 0, 0, 1, 1);

@@ -50,6 +50,19 @@ public final class CruiseTest {
         t.refused("a 31st", Tester.STATE, () -> sale.addPlot(0, 0, 0, 0, 0, 0));
         t.refused("the argument is named first", Tester.ARGUMENT, () -> sale.addPlot(0, 0, 501, 0, 0, 0));
 
+        for (int kinds = 0; kinds < 6; kinds++) {
+            TimberSale some = Tester.sale("sale 20 1 0 0 0 0 0;" + "species 0 1;".repeat(kinds));
+            for (int species = 0; species < 6; species++) {
+                int which = species;
+                if (species < kinds) {
+                    add(some, species, 1);
+                } else {
+                    t.refused(kinds + " species, not " + species, Tester.ARGUMENT, () -> add(some, which, 1));
+                }
+            }
+            t.due(kinds + " species", kinds, some::plotCount);
+        }
+
         TimberSale two = Tester.sale(THREE);
         for (int species = 2; species < 6; species++) {
             int which = species;
@@ -89,6 +102,16 @@ public final class CruiseTest {
         sale.addPlot(5, 1, 0, 0, 0, 0);
         t.due("the last of two", 1, () -> sale.removePlot(1));
         t.due("3 is left", 30, () -> sale.estimate(0, false));
+        TimberSale full = Tester.sale("sale 30 1 0 0 0 0 0;" + "species 0 1;".repeat(6));
+        for (int plot = 1; plot <= 30; plot++) {
+            full.addPlot(plot, 0, 0, 0, 0, plot);
+        }
+        t.due("the last of 30", 29, () -> full.removePlot(29));
+        full.addPlot(30, 0, 0, 0, 0, 30);
+        t.due("the first of 30", 29, () -> full.removePlot(0));
+        // 30 * 464 / 29
+        t.due("464 is left", 480, () -> full.estimate(0, false));
+        t.due("464 of the last species", 480, () -> full.estimate(5, false));
         sale.advertise();
         t.refused("not in the bidding", Tester.STATE, () -> sale.removePlot(0));
         t.refused("the index is named first", Tester.INDEX, () -> sale.removePlot(1));
@@ -205,6 +228,8 @@ public final class CruiseTest {
         sale.removePlot(0);
         t.refused("one plot", Tester.STATE, () -> sale.mostInfluentialPlot(0));
         t.refused("the index is named first", Tester.INDEX, () -> sale.mostInfluentialPlot(2));
+        TimberSale two = Tester.sale("sale 9 1 0 0 0 0 0;species 0 1;plot 3;plot 5;");
+        t.due("two plots", 0, () -> two.mostInfluentialPlot(0));
         TimberSale even = Tester.sale("sale 9 1 0 0 0 0 0;species 0 1;plot 3;plot 3;plot 3;");
         t.due("no influence", 0, () -> even.mostInfluentialPlot(0));
     }

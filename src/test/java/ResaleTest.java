@@ -16,8 +16,11 @@ public final class ResaleTest {
         firstContractStays();
         damages();
         damagesInALaterQuarter();
+        sixSpecies();
+        nothingIsLeftOfAnEarlierSale();
         undoOfEachChange();
         undoInTheSecondSale();
+        undoOfLaterLoads();
         undoDepth();
         whatIsNoChange();
         t.end();
@@ -238,6 +241,87 @@ public final class ResaleTest {
         t.due("the quarter of the present month", 10710, sale::damages);
     }
 
+    private static void sixSpecies() {
+        t.topic("six species");
+        TimberSale sale = Tester.sale("sale 2 1 0 100 0 0 0;" + "species 1 1;".repeat(6) + "plot 1 2 3 4 5 6;");
+        t.due("volumes", 42, sale::advertise);
+        Tester.bid(sale, 0, 0, 10, 20, 30, 40, 50, 60);
+        sale.open();
+        t.due("value", 1820, () -> sale.value(0));
+        t.due("least rate", 1, () -> sale.leastWinningRate(0, 5));
+        sale.award();
+        for (int species = 0; species < 6; species++) {
+            sale.scale(species, 10, 0);
+            sale.setIndex(0, species, 1 + species);
+        }
+        // the rates are 10, 21, 32, 43, 54 and 65
+        t.due("charge", 225, () -> sale.charge(0));
+        sale.endMonth();
+        t.due("remaining", 11, () -> sale.remaining(5));
+        t.due("default", 36, sale::declareDefault);
+        t.due("second volumes", 36, sale::advertise);
+        Tester.bid(sale, 1, 0, 1, 1, 1, 1, 1, 1);
+        sale.open();
+        sale.award();
+        // 10 + 3 * 21 + 5 * 32 + 7 * 43 + 9 * 54 + 11 * 65 - 36 + 225
+        t.due("damages", 1924, sale::damages);
+    }
+
+    /** What an object did before must not show in a sale that it reads later. */
+    private static void nothingIsLeftOfAnEarlierSale() {
+        t.topic("a text after a whole sale");
+        TimberSale used = Tester.sale("sale 9 1 0 100 0 50 0;" + "species 0 1;".repeat(6)
+                + "plot 1 2 3 4 5 6;plot 7 6 5 4 3 2;");
+        used.advertise();
+        Tester.bid(used, 0, 7, 10, 20, 30, 40, 50, 60);
+        Tester.bid(used, 1, 7, 10, 20, 30, 40, 50, 50);
+        used.open();
+        used.award();
+        for (int species = 0; species < 6; species++) {
+            used.scale(species, 10, 0);
+            used.check(species, 20, 0);
+            used.setIndex(species, species, 100);
+            used.endMonth();
+        }
+        used.declareDefault();
+        used.advertise();
+        Tester.bid(used, 1, 7, 1, 1, 1, 1, 1, 1);
+        Tester.bid(used, 0, 7, 1, 1, 1, 1, 1, 2);
+        used.open();
+        used.award();
+        String due = wholeSale(new TimberSale());
+        // The room of a sale is used again with the next text but one.
+        t.due("the next text", true, due.equals(wholeSale(used)));
+        for (int text = 0; text < 9; text++) {
+            t.due("a later text", true, due.equals(wholeSale(used)));
+        }
+        Tester.load(used, "sale 9 1 0 100 0 50 0;" + "species 0 1;".repeat(6) + "plot 1 2 3 4 5 6;");
+        Tester.load(used, "sale 9 1 0 100 0 50 0;" + "plot;".repeat(8) + "junk");
+        t.due("a text after an error", true, due.equals(wholeSale(used)));
+    }
+
+    private static String wholeSale(TimberSale sale) {
+        StringBuilder told = new StringBuilder();
+        told.append(Tester.load(sale, TWO)).append(everything(sale));
+        told.append(sale.advertise()).append(everything(sale));
+        Tester.bid(sale, 0, 690, 100, 90);
+        Tester.bid(sale, 3, 650, 100, 50);
+        told.append(sale.open()).append(everything(sale));
+        told.append(sale.award()).append(everything(sale));
+        sale.scale(0, 105, 0);
+        sale.scale(1, 105, 0);
+        sale.check(1, 100, 0);
+        told.append(sale.endMonth()).append(everything(sale));
+        sale.endMonth();
+        told.append(sale.declareDefault()).append(everything(sale));
+        told.append(sale.advertise()).append(everything(sale));
+        Tester.bid(sale, 1, 540, 100, 50);
+        Tester.bid(sale, 0, 540, 100, 50);
+        told.append(sale.open()).append(everything(sale));
+        told.append(sale.award()).append(everything(sale));
+        return told.toString();
+    }
+
     private static void undoOfEachChange() {
         t.topic("promise 49, each change");
         TimberSale sale = new TimberSale();
@@ -288,8 +372,33 @@ public final class ResaleTest {
             sale.undo();
         }
         t.due("back in the default", 5, sale::phase);
+        sale.advertise();
+        Tester.bid(sale, 7, 1000000, 100, 50);
+        sale.open();
+        t.due("it is still known who defaulted", 4, () -> sale.problem(7));
+        for (int left = 5; left >= 0; left--) {
+            sale.undo();
+        }
         t.due("with the first bids", 1, () -> sale.rank(7));
         t.due("and the first volume", 60, () -> sale.volume(0));
+    }
+
+    private static void undoOfLaterLoads() {
+        t.topic("promise 49, loads of later months");
+        TimberSale sale = contract();
+        for (int month = 0; month < 12; month++) {
+            sale.endMonth();
+            sale.scale(month % 2, 10 + month, 0);
+        }
+        for (int change = 0; change < 7; change++) {
+            sale.undo();
+        }
+        t.due("month", 9, sale::month);
+        for (int month = 1; month <= 8; month++) {
+            int which = month;
+            t.due("month " + month, 9 + month, () -> sale.scaled(ALL, which, which + 1));
+        }
+        t.due("nothing in the present one", 0, () -> sale.scaled(ALL, 9, 36));
     }
 
     /** The sale must be the same after the change and its undoing, and other in between. */
