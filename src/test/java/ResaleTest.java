@@ -359,6 +359,13 @@ public final class ResaleTest {
 
     private static void undoInTheSecondSale() {
         t.topic("promise 49, second sale");
+        TimberSale again = defaulted();
+        again.advertise();
+        again.undo();
+        again.advertise();
+        Tester.bid(again, 7, 1000000, 100, 50);
+        again.open();
+        t.due("the defaulted bidder after an undo", 4, () -> again.problem(7));
         TimberSale sale = defaulted();
         undoable("advertise", sale, sale::advertise);
         undoable("offer", sale, () -> sale.offer(0, 0, 100));

@@ -108,6 +108,18 @@ public final class SetupTest {
         t.due("no text", TimberSale.SYNTAX_ERROR, () -> sale.load(0));
         t.due("error of no text", 0, sale::errorPosition);
         t.due("the plot from before", 1, sale::plotCount);
+        cut("a semicolon behind the end", "sale 2 1 0 0 0 0 0", ";");
+        cut("a digit behind the end", "sale 2 1 0 0 0 0", "1");
+        cut("a letter behind the end", "sale", "s");
+        cut("a letter behind a plot", "sale 2 1 0 0 0 0 0;plot", "s");
+    }
+
+    /** A text that ends too early, with a byte in the buffer that must not be looked at. */
+    private static void cut(String what, String text, String behind) {
+        TimberSale sale = new TimberSale();
+        Tester.append(sale, text + behind);
+        t.due(what, TimberSale.SYNTAX_ERROR, () -> sale.load(text.length()));
+        t.due(what + ", position", text.length(), sale::errorPosition);
     }
 
     private static void readingOfWordsAndSpaces() {
@@ -118,6 +130,8 @@ public final class SetupTest {
         good("plots without species", "sale 2 1 0 0 0 0 0;plot;plot ;", 2);
         bad("words run together", "sale 2 1 0 0 0 0 0;speciesplot", TimberSale.SYNTAX_ERROR, 19);
         bad("a longer word", "sales 2 1 0 0 0 0 0;", TimberSale.SYNTAX_ERROR, 0);
+        bad("longer by a", "salea 2 1 0 0 0 0 0;", TimberSale.SYNTAX_ERROR, 0);
+        bad("longer by z", "salez 2 1 0 0 0 0 0;", TimberSale.SYNTAX_ERROR, 0);
         bad("a shorter word", "sal 2 1 0 0 0 0 0;", TimberSale.SYNTAX_ERROR, 0);
         bad("a capital letter", "Sale 2 1 0 0 0 0 0;", TimberSale.SYNTAX_ERROR, 0);
         bad("a capital letter behind", "saleS 2 1 0 0 0 0 0;", TimberSale.SYNTAX_ERROR, 4);
