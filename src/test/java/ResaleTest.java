@@ -1,6 +1,3 @@
-import java.util.ArrayList;
-import java.util.List;
-
 /** Promises 47 to 49: default, damages and undo; and the second bidding of promises 14 to 26. */
 public final class ResaleTest {
     private static final int ALL = TimberSale.NONE;
@@ -302,23 +299,23 @@ public final class ResaleTest {
 
     private static String wholeSale(TimberSale sale) {
         StringBuilder told = new StringBuilder();
-        told.append(Tester.load(sale, TWO)).append(everything(sale));
-        told.append(sale.advertise()).append(everything(sale));
+        told.append(Tester.load(sale, TWO)).append(Watch.everything(sale));
+        told.append(sale.advertise()).append(Watch.everything(sale));
         Tester.bid(sale, 0, 690, 100, 90);
         Tester.bid(sale, 3, 650, 100, 50);
-        told.append(sale.open()).append(everything(sale));
-        told.append(sale.award()).append(everything(sale));
+        told.append(sale.open()).append(Watch.everything(sale));
+        told.append(sale.award()).append(Watch.everything(sale));
         sale.scale(0, 105, 0);
         sale.scale(1, 105, 0);
         sale.check(1, 100, 0);
-        told.append(sale.endMonth()).append(everything(sale));
+        told.append(sale.endMonth()).append(Watch.everything(sale));
         sale.endMonth();
-        told.append(sale.declareDefault()).append(everything(sale));
-        told.append(sale.advertise()).append(everything(sale));
+        told.append(sale.declareDefault()).append(Watch.everything(sale));
+        told.append(sale.advertise()).append(Watch.everything(sale));
         Tester.bid(sale, 1, 540, 100, 50);
         Tester.bid(sale, 0, 540, 100, 50);
-        told.append(sale.open()).append(everything(sale));
-        told.append(sale.award()).append(everything(sale));
+        told.append(sale.open()).append(Watch.everything(sale));
+        told.append(sale.award()).append(Watch.everything(sale));
         return told.toString();
     }
 
@@ -410,14 +407,14 @@ public final class ResaleTest {
 
     /** The sale must be the same after the change and its undoing, and other in between. */
     private static void undoable(String what, TimberSale sale, Tester.Action change) {
-        String before = everything(sale);
+        String before = Watch.everything(sale);
         change.run();
-        String changed = everything(sale);
+        String changed = Watch.everything(sale);
         t.due(what + " changes something", false, before.equals(changed));
         sale.undo();
-        t.due(what + " is undone", true, before.equals(everything(sale)));
+        t.due(what + " is undone", true, before.equals(Watch.everything(sale)));
         change.run();
-        t.due(what + " can be done again", true, changed.equals(everything(sale)));
+        t.due(what + " can be done again", true, changed.equals(Watch.everything(sale)));
     }
 
     private static void undoDepth() {
@@ -477,60 +474,5 @@ public final class ResaleTest {
         text.undo();
         t.refused("undo does not bring the text back", Tester.ARGUMENT, () -> text.load(1));
         t.due("but the sale", 3, text::plotCount);
-    }
-
-    /** All that the questions answer, but for the questions about bids that are not opened. */
-    private static String everything(TimberSale sale) {
-        List<Tester.Call> calls = new ArrayList<>(List.of(sale::phase, sale::plotCount, sale::month, sale::debt,
-                sale::adjustment, sale::worstCheck, sale::damages, () -> sale.factor(false),
-                () -> sale.factor(true), () -> sale.cutShare(false), () -> sale.cutShare(true)));
-        for (int number = -1; number < 12; number++) {
-            int which = number;
-            calls.addAll(List.of(() -> sale.estimate(which, false), () -> sale.estimate(which, true),
-                    () -> sale.squaredError(which, false), () -> sale.neededPlots(which, 5),
-                    () -> sale.mostInfluentialPlot(which), () -> sale.volume(which), () -> sale.problem(which),
-                    () -> sale.value(which), () -> sale.rank(which), () -> sale.turningPoint(which)));
-            calls.addAll(List.of(() -> sale.leastWinningRate(which, 0), () -> sale.leastWinningRate(which, 1),
-                    () -> sale.rate(0, which), () -> sale.rate(1, which), () -> sale.indexFor(which, 120),
-                    () -> sale.net(which), () -> sale.scaled(which, 0, 36), () -> sale.charge(which),
-                    () -> sale.projectedDebt(which), () -> sale.remaining(which)));
-        }
-        StringBuilder text = new StringBuilder();
-        for (Tester.Call call : calls) {
-            text.append(answer(call)).append(' ');
-        }
-        return text.append(hiddenBids(sale)).toString();
-    }
-
-    /** The bids before they are opened, which only changes tell; the latest of them are undone. */
-    private static String hiddenBids(TimberSale sale) {
-        if (sale.phase() != 1 && sale.phase() != 6) {
-            return "";
-        }
-        StringBuilder text = new StringBuilder();
-        for (int bidder = 0; bidder < 8; bidder++) {
-            int which = bidder;
-            text.append(undone(sale, () -> sale.offer(which, 0, 0)));
-            text.append(undone(sale, () -> sale.offer(which, 1, 0)));
-            text.append(undone(sale, () -> sale.setDeposit(which, 0)));
-            text.append(undone(sale, () -> sale.seal(which)));
-        }
-        return text.toString();
-    }
-
-    private static String undone(TimberSale sale, Tester.Call change) {
-        String told = answer(change);
-        if (!told.startsWith("java")) {
-            sale.undo();
-        }
-        return told + ' ';
-    }
-
-    private static String answer(Tester.Call call) {
-        try {
-            return String.valueOf(call.answer());
-        } catch (RuntimeException thrown) {
-            return thrown.getClass().getName();
-        }
     }
 }
