@@ -136,6 +136,7 @@ public final class ContractSentencesTest {
         t.refused("a hundredth, too much", Tester.ELEMENT, () -> one.indexFor(0, 200));
         TimberSale none = contract("1 0 0 0 0 0", "90 50", 100);
         t.due("no share, the rate itself", 1, () -> none.indexFor(0, 100));
+        t.due("no share, between the minimum rate and the rate", 1, () -> none.indexFor(0, 95));
         t.refused("no share, 1 more", Tester.ELEMENT, () -> none.indexFor(0, 101));
     }
 

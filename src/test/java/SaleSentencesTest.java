@@ -132,6 +132,13 @@ public final class SaleSentencesTest {
         TimberSale edge = Tester.sale("sale 200 1 0 0 0 0 0;species 0 1;plot 5;plot 6;");
         t.due("not for 18", false, edge.isAccurate(0, 18));
         t.due("for 19", true, edge.isAccurate(0, 19));
+        // Cases that a factor of 39,999 or 40,001 instead of 40,000 would turn round.
+        TimberSale above = Tester.sale("sale 3 1 0 0 0 0 0;species 0 1;plot 258;plot 341;");
+        t.due("by a hair not accurate", false, above.isAccurate(0, 16));
+        TimberSale below = Tester.sale("sale 3 1 0 0 0 0 0;species 0 1;plot 67;plot 84;");
+        t.due("by a hair accurate", true, below.isAccurate(0, 13));
+        TimberSale plots = Tester.sale("sale 50 1 0 0 0 0 0;species 0 1;plot 9;plot 40;");
+        t.due("37 are by a hair too few", 38, () -> plots.neededPlots(0, 15));
     }
 
     private static void textOf800Bytes() {
