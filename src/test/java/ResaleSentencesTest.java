@@ -266,9 +266,14 @@ public final class ResaleSentencesTest {
         t.due("the buffer stays", 0, () -> fresh.load(20));
         t.due("the load is one", 0, fresh::undo);
         t.refused("it is undone", Tester.STATE, fresh::undo);
-        String before = Watch.everything(fresh);
         t.refused("and once more", Tester.STATE, fresh::undo);
-        t.due("nothing changes", true, before.equals(Watch.everything(fresh)));
+        String due = Watch.everything(TimberSale::new);
+        t.due("nothing changes", true, due.equals(Watch.everything(() -> {
+            TimberSale sale = Tester.sale("sale 3 1 0 0 0 0 0 ;");
+            sale.undo();
+            Watch.answer(sale::undo);
+            return sale;
+        })));
         t.due("the sale of a new object", 1, () -> fresh.addPlot(0, 0, 0, 0, 0, 0));
     }
 

@@ -1,8 +1,19 @@
+import java.util.ArrayList;
+import java.util.Arrays;
+import java.util.List;
+
 /** Promises 47 to 49: default, damages and undo; and the second bidding of promises 14 to 26. */
 public final class ResaleTest {
+    private interface Use {
+        void on(TimberSale sale);
+    }
+
     private static final int ALL = TimberSale.NONE;
     private static final String TWO = "sale 10 3 10 50 5 10 5000;species 100 100;species 50 200;"
             + "plot 4 2;plot 6 1;plot 8 0;";
+    private static final Use[] WHOLE_SALE = {TimberSale::advertise, ResaleTest::bidTwice, TimberSale::open,
+        TimberSale::award, ResaleTest::work, TimberSale::endMonth, TimberSale::declareDefault,
+        TimberSale::advertise, ResaleTest::bidAgain, TimberSale::open, TimberSale::award};
     private static final Tester t = new Tester();
 
     public static void main(String[] args) {
@@ -24,23 +35,33 @@ public final class ResaleTest {
     }
 
     private static TimberSale contract() {
-        TimberSale sale = Tester.sale(TWO);
+        TimberSale sale = new TimberSale();
+        makeContract(sale);
+        return sale;
+    }
+
+    private static void makeContract(TimberSale sale) {
+        Tester.load(sale, TWO);
         sale.advertise();
         Tester.bid(sale, 7, 690, 100, 90);
         Tester.bid(sale, 3, 650, 100, 50);
         sale.open();
         sale.award();
+    }
+
+    private static TimberSale defaulted() {
+        TimberSale sale = new TimberSale();
+        makeDefault(sale);
         return sale;
     }
 
     /** A debt of 1050 in month 1; 49 and 10 cubic metres remain. */
-    private static TimberSale defaulted() {
-        TimberSale sale = contract();
+    private static void makeDefault(TimberSale sale) {
+        makeContract(sale);
         sale.scale(0, 105, 0);
         sale.endMonth();
         sale.setIndex(0, 0, 103);
         sale.declareDefault();
-        return sale;
     }
 
     private static TimberSale resold() {
@@ -267,6 +288,22 @@ public final class ResaleTest {
     /** What an object did before must not show in a sale that it reads later. */
     private static void nothingIsLeftOfAnEarlierSale() {
         t.topic("a text after a whole sale");
+        for (int steps = 0; steps <= WHOLE_SALE.length; steps++) {
+            int taken = steps;
+            String due = Watch.everything(() -> after(new TimberSale(), taken));
+            t.due("the next text, step " + steps, true, due.equals(Watch.everything(() -> after(used(), taken))));
+            // The room of a sale is used again with the next text but one.
+            t.due("the second text, step " + steps, true, due.equals(Watch.everything(
+                    () -> after(after(used(), WHOLE_SALE.length), taken))));
+            t.due("the third text, step " + steps, true, due.equals(Watch.everything(
+                    () -> after(after(after(used(), WHOLE_SALE.length), WHOLE_SALE.length), taken))));
+            t.due("a text after an error, step " + steps, true, due.equals(Watch.everything(
+                    () -> after(afterAnError(used()), taken))));
+        }
+    }
+
+    /** A sale of six species that has gone through all phases but 4. */
+    private static TimberSale used() {
         TimberSale used = Tester.sale("sale 9 1 0 100 0 50 0;" + "species 0 1;".repeat(6)
                 + "plot 1 2 3 4 5 6;plot 7 6 5 4 3 2;");
         used.advertise();
@@ -286,72 +323,75 @@ public final class ResaleTest {
         Tester.bid(used, 0, 7, 1, 1, 1, 1, 1, 2);
         used.open();
         used.award();
-        String due = wholeSale(new TimberSale());
-        // The room of a sale is used again with the next text but one.
-        t.due("the next text", true, due.equals(wholeSale(used)));
-        for (int text = 0; text < 9; text++) {
-            t.due("a later text", true, due.equals(wholeSale(used)));
-        }
-        Tester.load(used, "sale 9 1 0 100 0 50 0;" + "species 0 1;".repeat(6) + "plot 1 2 3 4 5 6;");
-        Tester.load(used, "sale 9 1 0 100 0 50 0;" + "plot;".repeat(8) + "junk");
-        t.due("a text after an error", true, due.equals(wholeSale(used)));
+        return used;
     }
 
-    private static String wholeSale(TimberSale sale) {
-        StringBuilder told = new StringBuilder();
-        told.append(Tester.load(sale, TWO)).append(Watch.everything(sale));
-        told.append(sale.advertise()).append(Watch.everything(sale));
+    private static TimberSale afterAnError(TimberSale sale) {
+        Tester.load(sale, "sale 9 1 0 100 0 50 0;" + "species 0 1;".repeat(6) + "plot 1 2 3 4 5 6;");
+        Tester.load(sale, "sale 9 1 0 100 0 50 0;" + "plot;".repeat(8) + "junk");
+        return sale;
+    }
+
+    /** The sale after the text TWO and so many steps of WHOLE_SALE. */
+    private static TimberSale after(TimberSale sale, int steps) {
+        Tester.load(sale, TWO);
+        for (int step = 0; step < steps; step++) {
+            WHOLE_SALE[step].on(sale);
+        }
+        return sale;
+    }
+
+    private static void bidTwice(TimberSale sale) {
         Tester.bid(sale, 0, 690, 100, 90);
         Tester.bid(sale, 3, 650, 100, 50);
-        told.append(sale.open()).append(Watch.everything(sale));
-        told.append(sale.award()).append(Watch.everything(sale));
+    }
+
+    private static void work(TimberSale sale) {
         sale.scale(0, 105, 0);
         sale.scale(1, 105, 0);
         sale.check(1, 100, 0);
-        told.append(sale.endMonth()).append(Watch.everything(sale));
         sale.endMonth();
-        told.append(sale.declareDefault()).append(Watch.everything(sale));
-        told.append(sale.advertise()).append(Watch.everything(sale));
+    }
+
+    private static void bidAgain(TimberSale sale) {
         Tester.bid(sale, 1, 540, 100, 50);
         Tester.bid(sale, 0, 540, 100, 50);
-        told.append(sale.open()).append(Watch.everything(sale));
-        told.append(sale.award()).append(Watch.everything(sale));
-        return told.toString();
     }
 
     private static void undoOfEachChange() {
         t.topic("promise 49, each change");
-        TimberSale sale = new TimberSale();
-        undoable("load", sale, () -> Tester.load(sale, TWO));
-        undoable("load once more", sale, () -> Tester.load(sale, "sale 9 1 0 0 0 0 0;species 7 1;plot 9;"));
-        sale.undo();
-        undoable("addPlot", sale, () -> sale.addPlot(9, 9, 0, 0, 0, 0));
-        undoable("removePlot", sale, () -> sale.removePlot(0));
-        sale.undo();
-        sale.undo();
-        undoable("advertise", sale, sale::advertise);
-        undoable("offer", sale, () -> sale.offer(7, 0, 100));
-        sale.offer(7, 1, 90);
-        undoable("setDeposit", sale, () -> sale.setDeposit(7, 690));
-        undoable("seal", sale, () -> sale.seal(7));
-        undoable("withdraw", sale, () -> sale.withdraw(7));
-        sale.undo();
-        t.refused("it is sealed again", Tester.STATE, () -> sale.seal(7));
-        undoable("open", sale, sale::open);
-        undoable("award", sale, sale::award);
-        undoable("setIndex", sale, () -> sale.setIndex(0, 0, 300));
-        undoable("scale", sale, () -> sale.scale(0, 100, 0));
-        undoable("check", sale, () -> sale.check(0, 50, 0));
-        sale.scale(1, 10, 0);
-        undoable("voidLoad", sale, () -> sale.voidLoad(1));
-        undoable("endMonth", sale, sale::endMonth);
-        undoable("pay", sale, () -> sale.pay(7));
-        undoable("close", sale, sale::close);
-        undoable("pay for a closed contract", sale, () -> sale.pay(7));
-        sale.undo();
-        sale.undo();
-        undoable("declareDefault", sale, sale::declareDefault);
-        undoable("load in a later phase", sale, () -> Tester.load(sale, TWO));
+        List<Use> course = new ArrayList<>();
+        undoable("load", course, sale -> Tester.load(sale, TWO));
+        undoable("load once more", course, sale -> Tester.load(sale, "sale 9 1 0 0 0 0 0;species 7 1;plot 9;"));
+        course.add(TimberSale::undo);
+        undoable("addPlot", course, sale -> sale.addPlot(9, 9, 0, 0, 0, 0));
+        undoable("removePlot", course, sale -> sale.removePlot(0));
+        course.add(TimberSale::undo);
+        course.add(TimberSale::undo);
+        undoable("advertise", course, TimberSale::advertise);
+        undoable("offer", course, sale -> sale.offer(7, 0, 100));
+        course.add(sale -> sale.offer(7, 1, 90));
+        undoable("setDeposit", course, sale -> sale.setDeposit(7, 690));
+        undoable("seal", course, sale -> sale.seal(7));
+        undoable("withdraw", course, sale -> sale.withdraw(7));
+        course.add(TimberSale::undo);
+        TimberSale sealed = made(course);
+        t.refused("it is sealed again", Tester.STATE, () -> sealed.seal(7));
+        undoable("open", course, TimberSale::open);
+        undoable("award", course, TimberSale::award);
+        undoable("setIndex", course, sale -> sale.setIndex(0, 0, 300));
+        undoable("scale", course, sale -> sale.scale(0, 100, 0));
+        undoable("check", course, sale -> sale.check(0, 50, 0));
+        course.add(sale -> sale.scale(1, 10, 0));
+        undoable("voidLoad", course, sale -> sale.voidLoad(1));
+        undoable("endMonth", course, TimberSale::endMonth);
+        undoable("pay", course, sale -> sale.pay(7));
+        undoable("close", course, TimberSale::close);
+        undoable("pay for a closed contract", course, sale -> sale.pay(7));
+        course.add(TimberSale::undo);
+        course.add(TimberSale::undo);
+        undoable("declareDefault", course, TimberSale::declareDefault);
+        undoable("load in a later phase", course, sale -> Tester.load(sale, TWO));
     }
 
     private static void undoInTheSecondSale() {
@@ -363,14 +403,16 @@ public final class ResaleTest {
         Tester.bid(again, 7, 1000000, 100, 50);
         again.open();
         t.due("the defaulted bidder after an undo", 4, () -> again.problem(7));
-        TimberSale sale = defaulted();
-        undoable("advertise", sale, sale::advertise);
-        undoable("offer", sale, () -> sale.offer(0, 0, 100));
-        sale.offer(0, 1, 50);
-        undoable("setDeposit", sale, () -> sale.setDeposit(0, 540));
-        undoable("seal", sale, () -> sale.seal(0));
-        undoable("open", sale, sale::open);
-        undoable("award", sale, sale::award);
+        List<Use> course = new ArrayList<>();
+        course.add(ResaleTest::makeDefault);
+        undoable("advertise", course, TimberSale::advertise);
+        undoable("offer", course, used -> used.offer(0, 0, 100));
+        course.add(used -> used.offer(0, 1, 50));
+        undoable("setDeposit", course, used -> used.setDeposit(0, 540));
+        undoable("seal", course, used -> used.seal(0));
+        undoable("open", course, TimberSale::open);
+        undoable("award", course, TimberSale::award);
+        TimberSale sale = made(course);
         t.due("damages", 5809, sale::damages);
         for (int left = 6; left >= 0; left--) {
             sale.undo();
@@ -405,16 +447,26 @@ public final class ResaleTest {
         t.due("nothing in the present one", 0, () -> sale.scaled(ALL, 9, 36));
     }
 
+    private static TimberSale made(List<Use> course, Use... more) {
+        TimberSale sale = new TimberSale();
+        course.forEach(step -> step.on(sale));
+        Arrays.asList(more).forEach(step -> step.on(sale));
+        return sale;
+    }
+
     /** The sale must be the same after the change and its undoing, and other in between. */
-    private static void undoable(String what, TimberSale sale, Tester.Action change) {
-        String before = Watch.everything(sale);
-        change.run();
-        String changed = Watch.everything(sale);
+    private static void undoable(String what, List<Use> course, Use change) {
+        String before = Watch.everything(() -> made(course));
+        String changed = Watch.everything(() -> made(course, change));
         t.due(what + " changes something", false, before.equals(changed));
-        sale.undo();
-        t.due(what + " is undone", true, before.equals(Watch.everything(sale)));
-        change.run();
-        t.due(what + " can be done again", true, changed.equals(Watch.everything(sale)));
+        String undone = Watch.everything(() -> made(course, change, TimberSale::undo));
+        t.due(what + " is undone", true, before.equals(undone));
+        String again = Watch.everything(() -> made(course, change, TimberSale::undo, change));
+        t.due(what + " can be done again", true, changed.equals(again));
+        // What follows stands behind a change that was undone and done again.
+        course.add(change);
+        course.add(TimberSale::undo);
+        course.add(change);
     }
 
     private static void undoDepth() {

@@ -1,27 +1,30 @@
 import java.util.List;
 import java.util.function.Supplier;
 
-/** Tells all that can be seen of a sale, so that two sales, or one at two times, can be compared. */
+/**
+ * Tells all that can be seen of a sale, so that two sales, or one at two times, can be compared. It
+ * asks some 270 questions at a time, each time of a sale that the maker makes anew, because an object
+ * promises nothing after its 512th call.
+ */
 final class Watch {
     private Watch() {
     }
 
     /** All that the questions answer, and the bids that are not opened yet. */
-    static String everything(TimberSale sale) {
-        return questions(sale) + hiddenBids(sale);
+    static String everything(Supplier<TimberSale> maker) {
+        return questions(maker.get()) + hiddenBids(maker.get());
     }
 
-    /**
-     * What shows only later, too: what each undo brings back, how many there are, and the text
-     * buffer. To look at these changes the sale, so the maker is asked for a sale several times.
-     */
+    /** What shows only later, too: what each undo brings back, how many there are, and the text buffer. */
     static String aftermath(Supplier<TimberSale> maker) {
-        TimberSale undone = maker.get();
         StringBuilder text = new StringBuilder();
-        text.append(undone.errorPosition()).append(' ').append(questions(undone));
-        for (int left = 0; left < 10; left++) {
-            String answer = answer(undone::undo);
-            text.append("\nundo ").append(answer).append(' ').append(questions(undone));
+        for (int undone = 0; undone <= 10; undone++) {
+            TimberSale sale = maker.get();
+            text.append("\nundo");
+            for (int change = 0; change < undone; change++) {
+                text.append(' ').append(answer(sale::undo));
+            }
+            text.append(' ').append(sale.errorPosition()).append(' ').append(questions(sale));
         }
         text.append("\nbids ").append(hiddenBids(maker.get()));
         return text.append("\ntext ").append(buffer(maker)).toString();
