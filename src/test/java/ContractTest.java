@@ -270,6 +270,17 @@ public final class ContractTest {
         first.check(0, 2, 0);
         first.check(1, 1999, 0);
         t.due("a net volume of 1, the first load", 0, first::worstCheck);
+        TimberSale near = contract();
+        near.scale(0, 3, 0);
+        near.scale(0, 2, 0);
+        near.scale(0, 10000, 0);
+        near.scale(0, 9999, 0);
+        near.check(0, 2, 0);
+        near.check(1, 1, 0);
+        t.due("a half is more than a third", 1, near::worstCheck);
+        near.check(2, 20, 0);
+        near.check(3, 19, 0);
+        t.due("9980 of 9999 is a little more than 9980 of 10000", 3, near::worstCheck);
     }
 
     private static void scaled() {

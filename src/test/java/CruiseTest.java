@@ -206,6 +206,9 @@ public final class CruiseTest {
         TimberSale edge = Tester.sale("sale 4 1 0 0 0 0 0;species 0 1;plot 2;plot 2;plot 1;");
         t.due("equal", 3, () -> edge.neededPlots(0, 20));
         t.due("just not", 4, () -> edge.neededPlots(0, 19));
+        // 80,000 * (81 - m) <= 2,025 * m; with 79 plots 160,000 is a little more than 159,975
+        TimberSale near = Tester.sale("sale 81 1 0 0 0 0 0;species 0 1;plot 1;plot 0;");
+        t.due("just not, with many plots", 80, () -> near.neededPlots(0, 5));
         TimberSale even = Tester.sale("sale 9 1 0 0 0 0 0;species 0 1;plot 3;plot 3;");
         t.due("the same plots", 1, () -> even.neededPlots(0, 1));
     }

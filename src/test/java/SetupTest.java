@@ -144,6 +144,7 @@ public final class SetupTest {
         bad("the sign before 0", "sale 2/1 0 0 0 0 0;", TimberSale.SYNTAX_ERROR, 6);
         bad("the sign behind 9", "sale 2:1 0 0 0 0 0;", TimberSale.SYNTAX_ERROR, 6);
         bad("the sign before a", "sale`2 1 0 0 0 0 0;", TimberSale.SYNTAX_ERROR, 4);
+        bad("the sign behind z", "sale{2 1 0 0 0 0 0;", TimberSale.SYNTAX_ERROR, 4);
     }
 
     private static void syntaxErrors() {
